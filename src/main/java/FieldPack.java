@@ -350,14 +350,16 @@ public final class FieldPack {
                 cut = true;
                 return 0;
             }
-            return Math.max(0, bytes.at(at));
+            return bytes.row[at];
         }
 
         int take() {
-            int b = front();
-            if (at < end) {
-                at++;
+            if (at >= end) {
+                cut = true;
+                return 0;
             }
+            int b = bytes.row[at];
+            at++;
             return b;
         }
 
@@ -423,6 +425,7 @@ public final class FieldPack {
         final int capacity;
         final long[] names;
         final long[] values;
+        final int[] sizes;
         int first;
         int count;
         int size;
@@ -431,6 +434,7 @@ public final class FieldPack {
             this.capacity = capacity;
             names = new long[SLOTS];
             values = new long[SLOTS];
+            sizes = new int[SLOTS];
         }
 
         boolean has(int j) {
@@ -470,21 +474,24 @@ public final class FieldPack {
                 if (rest + fieldSize <= capacity) {
                     return j;
                 }
-                rest -= sizeOf(nameAt(j), valueAt(j));
+                rest -= sizes[j & (SLOTS - 1)];
             }
             return count;
         }
 
         void insert(long name, long value) {
-            int stays = firstBeside(sizeOf(name, value));
+            int fieldSize = sizeOf(name, value);
+            int stays = firstBeside(fieldSize);
             for (int j = first; j < stays; j++) {
-                size -= sizeOf(nameAt(j), valueAt(j));
+                size -= sizes[j & (SLOTS - 1)];
             }
             first = stays;
-            names[count & (SLOTS - 1)] = name;
-            values[count & (SLOTS - 1)] = value;
+            int slot = count & (SLOTS - 1);
+            names[slot] = name;
+            values[slot] = value;
+            sizes[slot] = fieldSize;
             count++;
-            size += sizeOf(name, value);
+            size += fieldSize;
         }
     }
 

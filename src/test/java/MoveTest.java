@@ -8,6 +8,7 @@ public final class MoveTest {
         streamsInOrder();
         oneBehindABlockedOneWaits();
         someAreReleased();
+        requiredAtTheEdges();
         wrongDeliveries();
         atMostEightWait();
         backByteByByte();
@@ -107,6 +108,26 @@ public final class MoveTest {
         x.move(0, 8);
         DUE.told("none waits", x, 1, 3, 3, 102, 0, 0);
         DUE.is("its value", x.decoded(4, 2, 0, 1), 'v');
+    }
+
+    /** R is as far above COUNT, then as far below it, as it can be read. */
+    private static void requiredAtTheEdges() {
+        FieldPack x = new FieldPack(66, 1);
+        Due.put(x, "q", "");
+        Due.put(x, "r", "");
+        x.encode(0);
+        DUE.bytes("R = 2", x, 2, 3, 129, 16, 17);
+        DUE.is("two have to come", x.deliver(0), 0);
+        x.move(0, 3);
+        DUE.told("one has to come", x, 1, 1, 1, 33, 1, 1);
+        x.move(0, 3);
+        DUE.told("none has to come", x, 1, 2, 2, 66, 0, 0);
+        x.move(1, 1);
+        Due.put(x, "q", "");
+        x.encode(1);
+        DUE.bytes("R = 1", x, 3, 2, 1, 129);
+        DUE.is("the oldest", x.deliver(1), 1);
+        DUE.is("its name", x.decoded(1, 0, 0, 0), 'q');
     }
 
     private static void wrongDeliveries() {

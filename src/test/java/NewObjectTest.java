@@ -74,12 +74,16 @@ public final class NewObjectTest {
             x.encode(0);
             DUE.told("a thirteenth", x, 0, 12, 12, 396, 0, 1, 1);
         }
-        FieldPack x = new FieldPack(400, 4);
-        for (int i = 0; i < 10; i++) {
+        FieldPack x = new FieldPack(401, 4);
+        for (int i = 0; i < 9; i++) {
             x.field(Due.text("n0") + i, Due.text("value0"), false);
         }
+        Due.put(x, "n9", "value99");
         x.encode(0);
-        DUE.told("ten of 40", x, 0, 10, 10, 400, 0, 1, 1);
+        DUE.told("nine of 40, one of 41", x, 0, 9, 9, 360, 0, 1, 1);
+        Due.put(x, "n9", "value9");
+        x.encode(0);
+        DUE.told("ten of 40", x, 0, 10, 10, 400, 0, 2, 1);
     }
 
     private static void blockedIsNoneToFour() {

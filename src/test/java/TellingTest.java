@@ -8,6 +8,7 @@ public final class TellingTest {
         told();
         entry();
         sectionsAndDecoded();
+        everyKindOfLine();
         DUE.done();
     }
 
@@ -127,6 +128,51 @@ public final class TellingTest {
             DUE.is("decoded(7, " + odd + ", 0, 0)", x.decoded(7, odd, 0, 0), -1);
             DUE.is("decoded(7, 0, " + odd + ", 0)", x.decoded(7, 0, odd, 0), -1);
             DUE.is("decoded(7, 0, 0, " + odd + ")", x.decoded(7, 0, 0, odd), -1);
+        }
+    }
+
+    private static void everyKindOfLine() {
+        FieldPack x = new FieldPack(400, 1);
+        Due.put(x, "q", "v");
+        x.encode(0);
+        x.move(0, 100);
+        x.deliver(0);
+        long[][] fields = {
+            {'b', '1', 0},
+            {'q', 'v', 0},
+            {'r', 'v', 0},
+            {'c', 'w', 1},
+            {'q', 'w', 1},
+            {'r', 'w', 1},
+            {'s', 'w', 1},
+            {'c', Due.text("longlong"), 0},
+        };
+        for (long[] f : fields) {
+            x.field(f[0], f[1], f[2] == 1);
+        }
+        x.encode(0);
+        DUE.bytes("lines", x, 2, 4, 129, 193, 128, 16, 114, 1, 'w', 96, 1, 'w', 8, 1, 'w', 49, 's', 1, 'w', 17);
+        x.move(0, 100);
+        DUE.is("deliver(0)", x.deliver(0), 1);
+        for (int f = 0; f < fields.length; f++) {
+            for (int what = 0; what < 3; what++) {
+                DUE.is("decoded(0, 1, " + f + ", " + what + ")", x.decoded(0, 1, f, what), fields[f][what]);
+            }
+        }
+        notRiskedLines();
+    }
+
+    private static void notRiskedLines() {
+        FieldPack x = new FieldPack(400, 0);
+        Due.put(x, "h", "w");
+        Due.put(x, "s", "");
+        x.encode(3);
+        DUE.is("deliver(3)", x.deliver(3), 1);
+        long[][] fields = {{'h', 'w', 0}, {'s', 0, 0}};
+        for (int f = 0; f < fields.length; f++) {
+            for (int what = 0; what < 3; what++) {
+                DUE.is("decoded(3, 0, " + f + ", " + what + ")", x.decoded(3, 0, f, what), fields[f][what]);
+            }
         }
     }
 }
