@@ -1,10 +1,15 @@
 import java.util.Arrays;
 import java.util.Random;
 
-/** Long mixed runs, each answer and all that can be seen of the state held against the model. */
+/**
+ * Long mixed runs, each answer held against the model; now and then all that can be asked, too, of new
+ * objects that have had the same calls, for each is used for 512 calls at most.
+ */
 public final class ModelRunsTest {
     private static final int RUNS = 500;
     private static final int CALLS = 512;
+    private static final int CALLS_BETWEEN_LOOKS = 60;
+    private static final int LAST_LOOK = 420;
     private static final int[] STEADY = {0, 2, 1, 4, 3};
     private static final int[] ODD_NUMBERS =
             {-1, 8, 9, 10, 11, 12, 13, 99, 6000, 6001, 5999, Integer.MIN_VALUE, Integer.MAX_VALUE, Integer.MIN_VALUE + 1};
@@ -13,6 +18,7 @@ public final class ModelRunsTest {
     private final Random random;
     private final Due due = new Due();
     private FieldPack x;
+    private Run played;
     private Model m;
     private String at;
     private int names;
@@ -66,14 +72,52 @@ public final class ModelRunsTest {
             mostMoved = 300;
         }
         x = new FieldPack(capacity, blocked);
+        played = new Run(capacity, blocked);
         m = new Model(capacity, blocked);
         lastRead = -1;
         turn = 0;
         for (int call = 0; call < CALLS; call++) {
             at = "run " + run + " (" + capacity + ", " + blocked + ") call " + call + ": ";
-            step();
-            compare();
+            if (random.nextInt(12) == 0) {
+                ask();
+            } else {
+                step();
+            }
+            if (call % CALLS_BETWEEN_LOOKS == 0 && call <= LAST_LOOK) {
+                compare();
+            }
+            mostEntries = Math.max(mostEntries, m.told(0, 1));
+            mostWaiting = Math.max(mostWaiting, m.told(1, 3));
+            mostCount = Math.max(mostCount, m.told(0, 0));
         }
+    }
+
+    private void play(String what, Run.Call call, long want) {
+        due.is(at + what, call.on(x), want);
+        played.then(call);
+    }
+
+    private void ask() {
+        int a = few();
+        int b = few();
+        int c = few();
+        int d = few();
+        switch (random.nextInt(6)) {
+            case 0 -> play("waiting" + Arrays.asList(a), p -> p.waiting(a), m.waiting(a));
+            case 1 -> play("look" + Arrays.asList(a, b), p -> p.look(a, b), m.look(a, b));
+            case 2 -> play("told" + Arrays.asList(a, b), p -> p.told(a, b), m.told(a, b));
+            case 3 -> {
+                int j = random.nextBoolean() ? b : m.told(random.nextInt(2), 0) - b;
+                play("entry" + Arrays.asList(a, j, c), p -> p.entry(a, j, c), m.entry(a, j, c));
+            }
+            case 4 -> play("sections" + Arrays.asList(a), p -> p.sections(a), m.sections(a));
+            default -> play("decoded" + Arrays.asList(a, b, c, d), p -> p.decoded(a, b, c, d), m.decoded(a, b, c, d));
+        }
+    }
+
+    /** A small number more often than not, for each argument of a call that asks. */
+    private int few() {
+        return random.nextInt(20) == 0 ? odd() : random.nextInt(random.nextBoolean() ? 3 : 10);
     }
 
     private void step() {
@@ -84,15 +128,15 @@ public final class ModelRunsTest {
         int stream = random.nextInt(40) == 0 ? odd() : random.nextInt(streams);
         int n = random.nextInt(30) == 0 ? odd() : steady ? mostMoved : random.nextInt(mostMoved);
         switch (kind()) {
-            case 0 -> due.is(at + "encode(" + stream + ")", x.encode(stream), m.encode(stream));
-            case 1 -> due.is(at + "deliver(" + stream + ")", x.deliver(stream), m.deliver(stream));
-            case 2 -> due.is(at + "move(0, " + n + ")", x.move(0, n), m.move(0, n));
-            case 3 -> due.is(at + "move(1, " + n + ")", x.move(1, n), m.move(1, n));
-            case 4 -> due.is(at + "increment()", x.increment(), m.increment());
-            case 5 -> due.is(at + "cancel(" + stream + ")", x.cancel(stream), m.cancel(stream));
+            case 0 -> play("encode(" + stream + ")", p -> p.encode(stream), m.encode(stream));
+            case 1 -> play("deliver(" + stream + ")", p -> p.deliver(stream), m.deliver(stream));
+            case 2 -> play("move(0, " + n + ")", p -> p.move(0, n), m.move(0, n));
+            case 3 -> play("move(1, " + n + ")", p -> p.move(1, n), m.move(1, n));
+            case 4 -> play("increment()", FieldPack::increment, m.increment());
+            case 5 -> play("cancel(" + stream + ")", p -> p.cancel(stream), m.cancel(stream));
             default -> {
                 int wire = odd();
-                due.is(at + "move(" + wire + ", " + n + ")", x.move(wire, n), m.move(wire, n));
+                play("move(" + wire + ", " + n + ")", p -> p.move(wire, n), m.move(wire, n));
             }
         }
     }
@@ -124,17 +168,15 @@ public final class ModelRunsTest {
     }
 
     private void field() {
-        long name = nameOf(random.nextInt(names));
-        long value = valueOf(random.nextInt(values));
-        if (random.nextInt(60) == 0) {
-            name = random.nextInt(3) == 0 ? 0 : random.nextLong() << 8 * random.nextInt(3);
-        }
-        if (random.nextInt(60) == 0) {
-            value = random.nextLong() & 0xFFFFFFFFFF00FFFFL;
-        }
+        long name = random.nextInt(60) == 0 ? oddName() : nameOf(random.nextInt(names));
+        long value = random.nextInt(60) == 0 ? random.nextLong() & 0xFFFFFFFFFF00FFFFL : valueOf(random.nextInt(values));
         boolean sensitive = random.nextInt(6) == 0;
-        due.is(at + "field(" + name + ", " + value + ", " + sensitive + ")",
-                x.field(name, value, sensitive), m.field(name, value, sensitive));
+        play("field(" + name + ", " + value + ", " + sensitive + ")",
+                p -> p.field(name, value, sensitive), m.field(name, value, sensitive));
+    }
+
+    private long oddName() {
+        return random.nextInt(3) == 0 ? 0 : random.nextLong() << 8 * random.nextInt(3);
     }
 
     private static long nameOf(int i) {
@@ -172,32 +214,29 @@ public final class ModelRunsTest {
     private void compare() {
         for (int wire = -1; wire <= 10; wire++) {
             int bytes = m.waiting(wire);
-            same("waiting", x.waiting(wire), bytes, wire);
+            same("waiting", played.asked().waiting(wire), bytes, wire);
             for (int i = -1; i <= bytes; i++) {
-                same("look", x.look(wire, i), m.look(wire, i), wire, i);
+                same("look", played.asked().look(wire, i), m.look(wire, i), wire, i);
             }
         }
         for (int end = -1; end <= 2; end++) {
             for (int what = -1; what <= 6; what++) {
-                same("told", x.told(end, what), m.told(end, what), end, what);
+                same("told", played.asked().told(end, what), m.told(end, what), end, what);
             }
             int count = m.told(Math.max(0, Math.min(1, end)), 0);
             for (int j = count - 15; j <= count; j++) {
                 for (int what = -1; what <= 2; what++) {
-                    same("entry", x.entry(end, j, what), m.entry(end, j, what), end, j, what);
+                    same("entry", played.asked().entry(end, j, what), m.entry(end, j, what), end, j, what);
                 }
             }
         }
         compareDecoded();
-        mostEntries = Math.max(mostEntries, m.told(0, 1));
-        mostWaiting = Math.max(mostWaiting, m.told(1, 3));
-        mostCount = Math.max(mostCount, m.told(0, 0));
     }
 
     private void compareDecoded() {
         int read = 0;
         for (int s = -1; s <= 8; s++) {
-            same("sections", x.sections(s), m.sections(s), s);
+            same("sections", played.asked().sections(s), m.sections(s), s);
             read += m.sections(s);
         }
         if (read == lastRead) {
@@ -205,10 +244,10 @@ public final class ModelRunsTest {
         }
         lastRead = read;
         for (int s = -1; s <= 8; s++) {
-            for (int k = Math.max(-1, m.sections(s) - 9); k <= m.sections(s); k++) {
+            for (int k = Math.max(-1, m.sections(s) - 3); k <= m.sections(s); k++) {
                 for (int f = -1; f <= 12; f++) {
                     for (int what = -1; what <= 3; what++) {
-                        same("decoded", x.decoded(s, k, f, what), m.decoded(s, k, f, what), s, k, f, what);
+                        same("decoded", played.asked().decoded(s, k, f, what), m.decoded(s, k, f, what), s, k, f, what);
                     }
                 }
             }

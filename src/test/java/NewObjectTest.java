@@ -8,6 +8,8 @@ public final class NewObjectTest {
         capacityIsKept();
         capacityIsAtMostFourHundred();
         blockedIsNoneToFour();
+        beyondTheBoundsIsTheBound();
+        withinTheBoundsIsItself();
         DUE.done();
     }
 
@@ -27,7 +29,7 @@ public final class NewObjectTest {
     }
 
     private static void capacityBelowNoneIsNone() {
-        for (int capacity : new int[] {Integer.MIN_VALUE, -1, 0, 31, 32}) {
+        for (int capacity : new int[] {Integer.MIN_VALUE, -400, -1, 0, 1, 31, 32}) {
             FieldPack x = new FieldPack(capacity, 4);
             Due.put(x, "q", "");
             DUE.is("capacity " + capacity + ": encode(0)", x.encode(0), 5);
@@ -95,6 +97,42 @@ public final class NewObjectTest {
                 x.encode(s);
             }
             DUE.told("blocked " + c[0], x, 0, 1, 1, 34, 0, c[1], c[1]);
+        }
+    }
+
+    /** Ten fields of 40 by seven streams, which only a capacity of 400 holds, and what comes of them. */
+    private static String lifeOf(int capacity, int blocked) {
+        Run run = new Run(capacity, blocked);
+        for (int i = 0; i < 10; i++) {
+            long name = Due.text("n0") + i;
+            run.then(x -> x.field(name, Due.text("value0"), false)).encode(i % 7).deliver(i % 7);
+        }
+        return run.future();
+    }
+
+    private static void same(String what, String one, String other, boolean want) {
+        DUE.is(what + " are alike", one.equals(other) ? 1 : 0, want ? 1 : 0);
+    }
+
+    /** "capacity below 0 is 0, above 400 it is 400; blocked below 0 is 0, above 4 it is 4" */
+    private static void beyondTheBoundsIsTheBound() {
+        for (int far : new int[] {1, 2, 1000, Integer.MAX_VALUE - 400}) {
+            same("capacity -" + far + " and 0", lifeOf(-far, 2), lifeOf(0, 2), true);
+            same("capacity 400 + " + far + " and 400", lifeOf(400 + far, 2), lifeOf(400, 2), true);
+            same("blocked -" + far + " and 0", lifeOf(400, -far), lifeOf(400, 0), true);
+            same("blocked 4 + " + far + " and 4", lifeOf(400, 4 + far), lifeOf(400, 4), true);
+        }
+        same("least capacity and 0", lifeOf(Integer.MIN_VALUE, 2), lifeOf(0, 2), true);
+        same("least blocked and 0", lifeOf(400, Integer.MIN_VALUE), lifeOf(400, 0), true);
+    }
+
+    private static void withinTheBoundsIsItself() {
+        same("capacity 399 and 400", lifeOf(399, 2), lifeOf(400, 2), false);
+        same("capacity 38 and 0", lifeOf(38, 2), lifeOf(0, 2), true);
+        same("capacity 40 and 0", lifeOf(40, 2), lifeOf(0, 2), false);
+        for (int blocked = 0; blocked < 4; blocked++) {
+            String what = "blocked " + blocked + " and one more";
+            same(what, lifeOf(400, blocked), lifeOf(400, blocked + 1), false);
         }
     }
 }
