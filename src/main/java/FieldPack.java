@@ -21,6 +21,8 @@ public final class FieldPack {
     private static final int FIELD_COST = 32;
     // The least field has size 33, so a capacity of 400 never holds more than 12.
     private static final int SLOTS = 16;
+    // Above every entry's number: what a section that refers to none has as its least.
+    private static final int BEHIND_ALL = 1 << 30;
     private static final int FIXED_ENTRIES = 8;
     private static final int FIXED_FIRST_NAME = 97;
     private static final int FIXED_ODD_VALUE = 49;
@@ -532,7 +534,7 @@ public final class FieldPack {
             lines.size = 0;
             base = table.count;
             required = 0;
-            least = Integer.MAX_VALUE;
+            least = BEHIND_ALL;
             mayRisk = isAtRisk(stream) || streamsAtRisk() < blocked;
             for (int i = 0; i < fields.size(); i++) {
                 putField(fields.get(i), wire);

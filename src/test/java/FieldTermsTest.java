@@ -111,16 +111,23 @@ public final class FieldTermsTest {
     private static void fixedValuesAreNoneOrOne() {
         for (int k = 0; k < 8; k++) {
             for (int value : new int[] {0, 48, 49, 50, 0x3131}) {
-                FieldPack x = new FieldPack(0, 0);
-                x.field(97 + k, value, false);
-                int want = value == (k % 2 == 0 ? 0 : 49) ? 3 : value == 0 ? 4 : value < 256 ? 5 : 6;
-                DUE.is("fixed " + k + " with " + value, x.encode(0), want);
-                DUE.is("first byte of its line", x.look(2, 2), (want == 3 ? 192 : 80) + k);
-                DUE.is("deliver", x.deliver(0), 1);
-                DUE.is("its name", x.decoded(0, 0, 0, 0), 97 + k);
-                DUE.is("its value", x.decoded(0, 0, 0, 1), value);
+                fixedName(k, value, false);
+                fixedName(k, value, true);
             }
         }
+    }
+
+    private static void fixedName(int k, int value, boolean sensitive) {
+        FieldPack x = new FieldPack(0, 0);
+        x.field(97 + k, value, sensitive);
+        boolean has = value == (k % 2 == 0 ? 0 : 49);
+        String what = "fixed " + k + " with " + value;
+        DUE.is(what, x.encode(0), has ? 3 : value == 0 ? 4 : value < 256 ? 5 : 6);
+        DUE.is(what + ": line", x.look(2, 2), (has ? 192 : sensitive ? 112 : 80) + k);
+        DUE.is(what + ": deliver", x.deliver(0), 1);
+        DUE.is(what + ": name", x.decoded(0, 0, 0, 0), 97 + k);
+        DUE.is(what + ": value", x.decoded(0, 0, 0, 1), value);
+        DUE.is(what + ": sensitive", x.decoded(0, 0, 0, 2), sensitive && !has ? 1 : 0);
     }
 
     private static void fixedNamesAreOneByte() {

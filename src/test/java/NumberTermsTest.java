@@ -56,27 +56,37 @@ public final class NumberTermsTest {
     /** "0 0 0 0 s NUMBER ( 3, j - B )": 6, 7 and 8 are below m, m and above it. */
     private static void entryInThreeBits() {
         for (int d = 0; d < 11; d++) {
-            FieldPack x = new FieldPack(400, 1);
-            int[] want = new int[2 + d + 1 + (d < 7 ? 1 : 2) + 1];
-            want[0] = 2 + d;
-            want[1] = 128 + d;
-            for (int j = 0; j <= d; j++) {
-                x.field('i' + j, 0, false);
-                want[2 + j] = 16 + j;
-            }
-            want[3 + d] = 8 + Math.min(d, 7);
-            if (d >= 7) {
-                want[4 + d] = d - 7;
-            }
-            x.field('i' + d, 0, true);
-            x.encode(0);
-            DUE.bytes("name of entry B + " + d, x, 2, want);
-            x.move(0, 6000);
-            DUE.is("deliver", x.deliver(0), 1);
-            DUE.is("name of entry B + " + d, x.decoded(0, 0, d + 1, 0), 'i' + d);
-            DUE.is("it is sensitive", x.decoded(0, 0, d + 1, 2), 1);
-            DUE.is("no field behind it", x.decoded(0, 0, d + 2, 0), -1);
+            entryInThreeBits(d, true);
+            entryInThreeBits(d, false);
         }
+    }
+
+    private static void entryInThreeBits(int d, boolean sensitive) {
+        // The table is full with entries that are BUSY, so none is inserted for the last field.
+        FieldPack x = new FieldPack(33 * (d + 1), 1);
+        int[] want = new int[2 + d + 1 + (d < 7 ? 1 : 2) + 2];
+        want[0] = 2 + d;
+        want[1] = 128 + d;
+        for (int j = 0; j <= d; j++) {
+            x.field('i' + j, 0, false);
+            want[2 + j] = 16 + j;
+        }
+        want[3 + d] = (sensitive ? 8 : 0) + Math.min(d, 7);
+        if (d >= 7) {
+            want[4 + d] = d - 7;
+        }
+        want[want.length - 2] = 1;
+        want[want.length - 1] = 'v';
+        x.field('i' + d, 'v', sensitive);
+        x.encode(0);
+        String what = "name of entry B + " + d;
+        DUE.bytes(what, x, 2, want);
+        x.move(0, 6000);
+        DUE.is(what + ": deliver", x.deliver(0), 1);
+        DUE.is(what, x.decoded(0, 0, d + 1, 0), 'i' + d);
+        DUE.is(what + ": value", x.decoded(0, 0, d + 1, 1), 'v');
+        DUE.is(what + ": sensitive", x.decoded(0, 0, d + 1, 2), sensitive ? 1 : 0);
+        DUE.is(what + ": no field behind it", x.decoded(0, 0, d + 2, 0), -1);
     }
 
     /** "0 0 1 s 0 TEXT ( 3, name )": 6, 7 and 8 bytes */
@@ -124,16 +134,27 @@ public final class NumberTermsTest {
     /** "1 0 NUMBER ( 6, B - 1 - j )" and "0 1 s 0 NUMBER ( 4, B - 1 - j )" from the newest to the oldest */
     private static void entryBelowInFourAndSixBits() {
         for (int j = 0; j < 12; j++) {
-            FieldPack x = grown(12);
-            x.field('i' + 1 + j, 0, false);
-            x.field('i' + 1 + j, 'v', true);
-            x.encode(7);
-            DUE.bytes("entry " + j, x, 9, 2 + j, 11 - j, 128 + 11 - j, 96 + 11 - j, 1, 'v');
-            x.deliver(7);
-            DUE.is("field 0", x.decoded(7, 0, 0, 0), 'i' + 1 + j);
-            DUE.is("field 1", x.decoded(7, 0, 1, 0), 'i' + 1 + j);
-            DUE.is("its value", x.decoded(7, 0, 1, 1), 'v');
+            entryBelow(j, true);
+            entryBelow(j, false);
         }
+    }
+
+    private static void entryBelow(int j, boolean sensitive) {
+        FieldPack x = grown(12);
+        x.field('i' + 1 + j, 0, false);
+        // The oldest entry is BUSY by this one, so none is inserted for the next.
+        x.field('i' + 1, 0, false);
+        x.field('i' + 1 + j, 'v', sensitive);
+        x.encode(7);
+        String what = "entry " + j;
+        DUE.bytes(what, x, 9, 2 + j, 11 - j, 128 + 11 - j, 139, (sensitive ? 96 : 64) + 11 - j, 1, 'v');
+        x.deliver(7);
+        DUE.is(what, x.decoded(7, 0, 0, 0), 'i' + 1 + j);
+        DUE.is(what + ": no value", x.decoded(7, 0, 0, 1), 0);
+        DUE.is(what + ": not sensitive", x.decoded(7, 0, 0, 2), 0);
+        DUE.is("name of " + what, x.decoded(7, 0, 2, 0), 'i' + 1 + j);
+        DUE.is("its value", x.decoded(7, 0, 2, 1), 'v');
+        DUE.is("sensitive", x.decoded(7, 0, 2, 2), sensitive ? 1 : 0);
     }
 
     /** "0 1 0 TEXT ( 5, name ), TEXT ( 7, value )": none and the longest of each */

@@ -1,3 +1,6 @@
+import java.util.ArrayDeque;
+import java.util.Deque;
+
 /** Terms: THE TABLE of an end, CAPACITY, COUNT, and the INSTRUCTIONS that fill it. */
 public final class TableTermsTest {
     private static final Due DUE = new Due();
@@ -14,6 +17,7 @@ public final class TableTermsTest {
         nameOfOneThatGoes();
         twelveAreTheMost();
         numbersGoOn();
+        manySizes();
         DUE.done();
     }
 
@@ -221,6 +225,27 @@ public final class TableTermsTest {
                 DUE.is("entry " + i + " at " + end, x.entry(end, i, 0), 'i' + i);
                 DUE.is("the one before", x.entry(end, i - 1, 0), -1);
                 DUE.is("the one behind", x.entry(end, i + 1, 0), -1);
+            }
+        }
+    }
+
+    /** Sizes of all kinds in turn, each end held against a queue of sizes. */
+    private static void manySizes() {
+        for (int capacity : new int[] {48, 80, 81, 82, 97, 130, 160}) {
+            FieldPack x = new FieldPack(capacity, 0);
+            Deque<Integer> there = new ArrayDeque<>();
+            int size = 0;
+            for (int i = 0; i < 26; i++) {
+                int length = i * 7 % 9;
+                plant(x, Character.toString('i' + i), "eightbyt".substring(0, length));
+                while (size + 33 + length > capacity) {
+                    size -= there.remove();
+                }
+                there.add(33 + length);
+                size += 33 + length;
+                for (int end = 0; end < 2; end++) {
+                    DUE.told("capacity " + capacity + ", field " + i, x, end, i + 1, there.size(), size);
+                }
             }
         }
     }
